@@ -75,6 +75,25 @@ public final class BestTest {
         bests("a leak that is not", x, 50, 0, 3);
         x.set(0, 0, 1);
         bests("LINED", x, 67, 0, 1);
+        aCrowd();
+    }
+
+    /** Of three ROOMS, the middle one leaks into both others. */
+    private static void aCrowd() {
+        DreamsPayRent x = new DreamsPayRent();
+        Check.rule(x, "rents 20 * number; leaks space; minds 1;");
+        for (int room = 0; room < 8; room++) {
+            x.set(2, room, room == 2 || room == 4 || room == 6 ? 20 : 1);
+        }
+        x.dream(DREAM, 2, 4);
+        x.dream(DREAM, 2, 4);
+        x.dream(DREAM, 1, 9);
+        // all in: 100 less 8 less 13; without 2, apart: 80
+        bests("without the least one", x, 80, 2, 6, -1);
+        x.set(3, 2, 4);
+        bests("all, the one that leaks most at the end", x, 160 - 8 - 13, 2, 4, 6);
+        x.set(0, 0, 64);
+        bests("one of two WALLS is LINED", x, 160 - 8, 4, 6, 2);
     }
 
     private static void bestRefuses() {
@@ -174,6 +193,13 @@ public final class BestTest {
         putOut("none", x, -1, 22);
         x.set(3, 0, 5);
         putOut("of like WORTH as now", x, -1, 20);
+        x.let(0, 7);
+        x.let(1, 1);
+        x.let(2, 0);
+        x.set(0, 0, 0);
+        x.set(3, 2, 9);
+        // 30 less 18, and 0 is in again while 1 is thought away
+        putOut("one of the others", x, 1, 20);
     }
 
     private static void line(String of, DreamsPayRent x, int wall, int worth) {
@@ -196,6 +222,20 @@ public final class BestTest {
         line("the other is LINED", x, 2, 30);
         x.set(0, 0, 260);
         line("both are LINED", x, -1, 30);
+        int[][] walls = {{0, 1}, {2, 3}, {4, 5}, {6, 7}, {0, 2}, {1, 3}, {2, 4}, {3, 5}, {4, 6}, {5, 7}};
+        x.set(0, 0, 0);
+        x.let(2, -1);
+        for (int wall = 0; wall < 10; wall++) {
+            x.let(0, -1);
+            x.let(1, walls[wall][0]);
+            x.let(0, walls[wall][1]);
+            line("wall " + wall, x, wall, 20);
+            x.set(0, 0, 1023 - (1 << wall));
+            line("wall " + wall + " alone is not LINED", x, wall, 20);
+            x.set(0, 0, 1 << wall);
+            line("wall " + wall + " is LINED", x, -1, 20);
+            x.set(0, 0, 0);
+        }
     }
 
     private static void theyRefuse() {

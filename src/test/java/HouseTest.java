@@ -224,11 +224,23 @@ public final class HouseTest {
         CHECK.due("6 rents below 0", x.would(0, 0, 1), 4);
         CHECK.due("6 leaks below 0", x.would(0, 0, 2), 0);
         CHECK.due("6 minds below 0", x.would(0, 0, 3), 0);
+        Check.rule(x, "rents 98 + number - 8; leaks 98 + number - 8; minds number - 1;");
+        x.set(3, 0, 9);
+        x.dream(DREAM, 9, 1);
+        x.dream(DREAM, 0, 1);
+        CHECK.due("6 rents, just the bound", x.would(1, 0, 1), 99);
+        CHECK.due("6 leaks, just the bound", x.would(1, 0, 2), 99);
+        CHECK.due("6 minds, just within", x.would(1, 0, 3), 8);
+        CHECK.due("6 minds, 1 below 0", x.would(2, 0, 3), 0);
+        Check.rule(x, "rents 100; leaks 100; minds 10;");
+        CHECK.due("6 rents, 1 above", x.would(1, 0, 1), 99);
+        CHECK.due("6 leaks, 1 above", x.would(1, 0, 2), 99);
+        CHECK.due("6 minds, 1 above", x.would(1, 0, 3), 9);
         x.dream(PARTY, 9, 1);
         Check.rule(x, "rents 99; leaks 99; minds 9;");
-        CHECK.due("6 rents' most", x.would(1, 0, 1), 207);
-        CHECK.due("6 leaks' most", x.would(1, 0, 2), 99);
-        CHECK.due("6 minds' most", x.would(1, 0, 3), 9);
+        CHECK.due("6 rents' most", x.would(3, 0, 1), 207);
+        CHECK.due("6 leaks' most", x.would(3, 0, 2), 99);
+        CHECK.due("6 minds' most", x.would(3, 0, 3), 9);
     }
 
     private static void wouldFollowTheRule() {

@@ -313,6 +313,9 @@ public final class RentsTest {
             x.force(0);
             x.night();
             x.dream(SEA, 0, 1);
+            x.set(5, 2, 1);
+            x.set(6, 2, 50);
+            x.let(2, 0);
             CHECK.due("24 back", x.back(), 2);
             for (int[] row : first) {
                 int want = row[0] == 1 ? 9 : row[0] == 5 && row[1] == 0 ? 10 : row[2];
