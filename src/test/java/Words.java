@@ -77,10 +77,10 @@ final class Words {
         due(call + (got.equals(want) ? "" : ": " + got + " for " + want), got.equals(want) ? 1 : 0, 1);
     }
 
-    /** Runs every method without parameters: each must quote words, and tell an answer that is due. */
+    /** Runs every method that takes and answers nothing: each must quote words, and tell an answer that is due. */
     void run(Class<?> tests) throws IllegalAccessException {
         for (Method m : tests.getDeclaredMethods()) {
-            if (m.getParameterCount() != 0 || m.isSynthetic()) {
+            if (m.getParameterCount() != 0 || m.getReturnType() != void.class || m.isSynthetic()) {
                 continue;
             }
             quoted = null;
