@@ -120,7 +120,7 @@ public final class HouseWordsTest {
     }
 
     private static void sixKinds() {
-        W.terms("a KIND: 0 DREAM, 1 SEA under DREAM, 2 FLYING under DREAM, 3 NIGHTMARE under SEA, 4 PARTY under FLYING,"
+        W.terms("have a KIND: 0 DREAM, 1 SEA under DREAM, 2 FLYING under DREAM, 3 NIGHTMARE under SEA, 4 PARTY under FLYING,"
             + " 5 SIMPLE under DREAM");
         DreamsPayRent x = new DreamsPayRent();
         W.due("KIND -1", x.dream(-1, 0, 1), BAD);

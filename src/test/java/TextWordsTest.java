@@ -46,10 +46,10 @@ public final class TextWordsTest {
 
     private static void theTape() {
         W.terms("A TEXT is read from THE TAPE (160 bytes at most).");
-        DreamsPayRent x = new DreamsPayRent();
         String text = "rents 7" + TAIL;
-        W.due("a TEXT of 160 bytes", Check.text(x, text + some(" ", 160 - text.length())), 1);
-        W.due("159 and a fault at the last byte", Check.text(x, text + some(" ", 159 - text.length()) + "?"), -259);
+        good(text + some(" ", 160 - text.length()));
+        fault(text + some(" ", 159 - text.length()) + "?", 159);
+        DreamsPayRent x = new DreamsPayRent();
         for (int i = 1; i <= 160; i++) {
             W.due("byte " + i, x.feed(';'), i);
         }
