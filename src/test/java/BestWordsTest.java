@@ -71,6 +71,23 @@ public final class BestWordsTest {
         bests("two by a LINED WALL, two ROOMS for three", x, 25, NONE, 0, 1);
     }
 
+    private static void bestByWhatLeaks() {
+        W.terms("BEST: of all ways to have each DREAM in a ROOM that it FITS, or out, that of most WORTH");
+        DreamsPayRent x = ruled("rents size; leaks space; minds number;");
+        for (int room = 0; room < 8; room++) {
+            x.set(2, room, room < 2 ? 40 : 1);
+        }
+        x.dream(DREAM, 3, 2);
+        x.dream(DREAM, 4, 5);
+        bests("80 less 2 times 4, less 5 times 3", x, 57, 0, 1);
+        x.set(3, 1, 9);
+        bests("80 less 2 times 9, less 5 times 3", x, 47, 0, 1);
+        x.set(4, 1, 9);
+        bests("80 less 2 times 9, less 9 times 3 is too little", x, 40, NONE, 0);
+        x.set(0, 0, 1);
+        bests("nothing leaks through a LINED WALL", x, 80, 0, 1);
+    }
+
     private static void bestNoTwoInOne() {
         W.terms("BEST: of all ways to have each DREAM in a ROOM that it FITS, or out, that of most WORTH");
         DreamsPayRent x = ruled("rents size; leaks 0; minds 0;");

@@ -11,6 +11,8 @@ import java.nio.file.Path;
 import java.util.Arrays;
 import java.util.Set;
 import java.util.TreeSet;
+import java.util.regex.Matcher;
+import java.util.regex.Pattern;
 
 /** The public face, the rules of LANGUAGE.md that can be seen from outside, and that no call ever throws. */
 public final class FaceTest {
@@ -33,6 +35,9 @@ public final class FaceTest {
         members();
         nested();
         source();
+        library();
+        methodsAreShort();
+        nothingIsMadeLater();
         for (int state = 0; state < 4; state++) {
             neverThrows(state);
         }
@@ -97,6 +102,9 @@ public final class FaceTest {
         for (Class<?> c : inside) {
             isTrue("rule 2: " + c + " is static", Modifier.isStatic(c.getModifiers()));
             isTrue("rule 1: " + c + " is not public", !Modifier.isPublic(c.getModifiers()));
+            for (Method m : c.getDeclaredMethods()) {
+                isTrue("rule 1: private " + m, !Modifier.isPrivate(m.getModifiers()) || !isOfTheFace(m.getName()));
+            }
             limits(c);
         }
         limits(DreamsPayRent.class);
@@ -117,6 +125,17 @@ public final class FaceTest {
         }
     }
 
+    private static boolean isOfTheFace(String name) {
+        for (String one : FACE) {
+            if (one.contains(" " + name + "(")) {
+                return true;
+            }
+        }
+        return false;
+    }
+
+    private static String source;
+
     private static void source() throws IOException {
         String s = Files.readString(Path.of("src/main/java/DreamsPayRent.java"), StandardCharsets.ISO_8859_1);
         boolean ascii = true;
@@ -124,15 +143,62 @@ public final class FaceTest {
             ascii &= s.charAt(i) < 127;
         }
         isTrue("rule 3: signs", ascii);
-        String code = s.replaceAll("(?s)/\\*.*?\\*/", " ").replaceAll("//[^\n]*", " ");
+        source = s.replaceAll("(?s)/\\*.*?\\*/", " ").replaceAll("//[^\n]*", " ");
         String[] words = {"import", "package", "throw", "throws", "try", "catch", "synchronized", "assert", "instanceof",
-            "Exception", "Object", "System\\.out", "Random", "Thread", "protected", "volatile", "transient", "native"};
+            "Exception", "Object", "System\\.out", "Random", "Thread", "protected", "volatile", "transient", "native",
+            "record", "enum", "interface", "extends", "implements", "List", "StringBuilder", "null"};
         for (String word : words) {
-            isTrue("rules 4, 6: no " + word, !java.util.regex.Pattern.compile("\\b" + word + "\\b").matcher(code).find());
+            isTrue("rules 2, 4, 6: no " + word, !finds("\\b" + word + "\\b"));
         }
-        isTrue("rule 2: no lambda", !code.contains("->"));
-        isTrue("rule 2: no method reference", !code.contains("::"));
-        isTrue("rule 5: no static block", !code.matches("(?s).*\\bstatic\\s*\\{.*"));
+        isTrue("rule 2: no lambda", !source.contains("->"));
+        isTrue("rule 2: no method reference", !source.contains("::"));
+        isTrue("rule 5: no static block", !finds("\\bstatic\\s*\\{"));
+        isTrue("rule 10: texts are not joined by +", !finds("\"\\s*\\+|\\+\\s*\""));
+        isTrue("rule 9: no loop without an end", !finds("while\\s*\\(\\s*true|for\\s*\\([^;]*;\\s*;"));
+    }
+
+    private static boolean finds(String pattern) {
+        return Pattern.compile(pattern).matcher(source).find();
+    }
+
+    private static void library() {
+        Set<String> own = new TreeSet<>();
+        for (Class<?> c : DreamsPayRent.class.getDeclaredClasses()) {
+            own.add(c.getSimpleName());
+        }
+        Set<String> allowed = Set.of("Math.max", "Math.min", "Integer.bitCount", "System.arraycopy");
+        Matcher m = Pattern.compile("\\b([A-Z]\\w*[a-z]\\w*)\\.(\\w+)").matcher(source);
+        while (m.find()) {
+            isTrue("rule 4: " + m.group(), own.contains(m.group(1)) || allowed.contains(m.group()));
+        }
+    }
+
+    /** From a line that opens a method, or a constructor, to the one that closes it. */
+    private static void methodsAreShort() {
+        int begin = -1;
+        String indent = "";
+        String[] lines = source.split("\n");
+        for (int i = 0; i < lines.length; i++) {
+            if (begin < 0 && lines[i].matches(" {4,8}[\\w\\[\\] ]+\\([^;]*\\) \\{") && !lines[i].matches(" *(if|for|while|switch).*")) {
+                begin = i;
+                indent = lines[i].replaceAll("\\S.*", "");
+            } else if (begin >= 0 && lines[i].equals(indent + "}")) {
+                isTrue("rule 11: " + (i - begin + 1) + " lines of " + lines[begin].strip(), i - begin + 1 <= 60);
+                begin = -1;
+            }
+        }
+    }
+
+    /** What is made is made by a constructor, or as a field is. */
+    private static void nothingIsMadeLater() {
+        int made = 0;
+        for (String line : source.split("\n")) {
+            if (line.matches(".*\\bnew\\b.*")) {
+                isTrue("rule 12: " + line.strip(), line.matches(" {8}(final int\\[\\](\\[\\])? )?\\w+ = new .*;"));
+                made++;
+            }
+        }
+        isTrue("rule 12: " + made + " are made", made >= 7);
     }
 
     /** A state: new, some in, all in by another rule, all FULL. */

@@ -300,6 +300,12 @@ public final class TextWordsTest {
         value("(3 < 4) + 90", 91);
         value("(4 < 4) + 90", 90);
         value("(4 = 4) + 90", 91);
+        value("(4 = 5) + 90", 90);
+        value("(0 or 0) + 90", 90);
+        value("(4 or 0) + 90", 91);
+        value("(4 and 0) + 90", 90);
+        value("(4 and 5) + 90", 91);
+        value("(not 4) + 90", 90);
         value("(256*256*256*128 and 1) + 90", 91);
     }
 
