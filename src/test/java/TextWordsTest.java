@@ -338,6 +338,20 @@ public final class TextWordsTest {
         fault("rents 1; leaks 2; minds 3", 25);
         fault("rents 1; leaks 2; minds 3  ", 27);
         fault("rents 1" + some(" ", 153), 160);
+        fault("rents 12" + some("+1", 76), 160);
+        fault("rents 1" + some("+1", 74) + "+size", 160);
+    }
+
+    /** What stood on THE TAPE before does not tell any more. */
+    private static void faultOfTheEndBehindALongerOne() {
+        W.terms("(the text's size, if it ends too early)");
+        DreamsPayRent x = new DreamsPayRent();
+        W.due("a longer NUMBER", Check.text(x, "rents 1234567"), -106);
+        W.due("its first 4 digits", Check.text(x, "rents 1234"), -110);
+        W.due("a longer WORD", Check.text(x, "rents sizes"), -106);
+        W.due("its first 4 letters", Check.text(x, "rents size"), -110);
+        W.due("a TEXT", Check.text(x, "rents 1" + TAIL), 1);
+        W.due("all but its last byte", Check.text(x, "rents 1" + TAIL.substring(0, TAIL.length() - 1)), -123);
     }
 
     private static void faultOfAByte() {
