@@ -316,8 +316,7 @@ public final class DreamsPayRent {
                 good++;
             }
         }
-        int shared = greatestShared(good, n);
-        return part == 0 ? good / shared : n / shared;
+        return inLowestTerms(part == 0 ? good : n, good, n);
     }
 
     public int image() {
@@ -525,13 +524,14 @@ public final class DreamsPayRent {
         return putOut != 0;
     }
 
-    private static int greatestShared(int a, int b) {
-        for (int d = b; d > 1; d--) {
-            if (a % d == 0 && b % d == 0) {
-                return d;
+    /** What is above or below a line, less what both share. */
+    private static int inLowestTerms(int part, int above, int below) {
+        for (int d = below; d > 1; d--) {
+            if (above % d == 0 && below % d == 0) {
+                return part / d;
             }
         }
-        return 1;
+        return part;
     }
 
     private static int lowestBit(int bits) {

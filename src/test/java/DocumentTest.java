@@ -3,30 +3,32 @@ import java.nio.charset.StandardCharsets;
 import java.nio.file.Files;
 import java.nio.file.Path;
 import java.util.ArrayList;
+import java.util.HashMap;
 import java.util.List;
+import java.util.Map;
 import java.util.regex.Matcher;
 import java.util.regex.Pattern;
 import java.util.stream.Stream;
 
-/** No word of the document's Terms and promises is left that no test of words quotes. */
+/** No word of what the document says it is, of its Terms and promises is left that no test of words quotes. */
 public final class DocumentTest {
     private static final Check CHECK = new Check("DocumentTest");
     private static final int PROMISES = 30;
     private static final Pattern QUOTE = Pattern.compile(
-        "W\\.(terms|promise)\\(\\s*(?:(\\d+),\\s*)?((?:\"(?:[^\"\\\\]|\\\\.)*\"\\s*\\+?\\s*)+)\\)");
+        "W\\.(face|terms|promise)\\(\\s*(?:(\\d+),\\s*)?((?:\"(?:[^\"\\\\]|\\\\.)*\"\\s*\\+?\\s*)+)\\)");
     private static final Pattern LITERAL = Pattern.compile("\"((?:[^\"\\\\]|\\\\.)*)\"");
 
     public static void main(String[] args) throws IOException {
-        List<List<String>> quotes = quotes();
+        Map<Integer, List<String>> quotes = quotes();
         String document = Words.read();
         if (document.isEmpty()) {
             System.out.println("DocumentTest: " + Words.DOCUMENT + " does not stand here");
             return;
         }
-        for (int number = 0; number <= PROMISES; number++) {
-            CHECK.due((number == 0 ? "Terms" : "promise " + number) + ": words that stand there", words(document, number), 1);
+        for (int number = Words.FACE; number <= PROMISES; number++) {
+            CHECK.due(name(number) + ": words that stand there", words(document, number), 1);
             for (String rest : rests(said(document, number), quotes.get(number))) {
-                CHECK.due((number == 0 ? "Terms" : "promise " + number) + ": quotes of '" + rest + "'", 0, 1);
+                CHECK.due(name(number) + ": quotes of '" + rest + "'", 0, 1);
             }
         }
         CHECK.end();
@@ -36,11 +38,15 @@ public final class DocumentTest {
         return said(document, number).matches("(?s).*\\w.*") ? 1 : 0;
     }
 
-    /** The quotes of each promise, of the Terms at 0. */
-    private static List<List<String>> quotes() throws IOException {
-        List<List<String>> quotes = new ArrayList<>();
-        for (int number = 0; number <= PROMISES; number++) {
-            quotes.add(new ArrayList<>());
+    private static String name(int number) {
+        return number == Words.FACE ? "What it is" : number == Words.TERMS ? "Terms" : "promise " + number;
+    }
+
+    /** The quotes of each promise, of the Terms, of what stands ahead of them, by the numbers of Words. */
+    private static Map<Integer, List<String>> quotes() throws IOException {
+        Map<Integer, List<String>> quotes = new HashMap<>();
+        for (int number = Words.FACE; number <= PROMISES; number++) {
+            quotes.put(number, new ArrayList<>());
         }
         try (Stream<Path> files = Files.list(Path.of("src/test/java"))) {
             for (Path file : (Iterable<Path>) files.sorted()::iterator) {
@@ -51,16 +57,26 @@ public final class DocumentTest {
                     while (literal.find()) {
                         words.append(literal.group(1));
                     }
-                    quotes.get(m.group(2) == null ? 0 : Integer.parseInt(m.group(2))).add(words.toString());
+                    quotes.get(number(m.group(1), m.group(2))).add(words.toString());
                 }
             }
         }
         return quotes;
     }
 
-    /** What the part says to the class: no headings, signatures, marks, comments of the face. */
+    private static int number(String part, String promise) {
+        if (part.equals("face")) {
+            return Words.FACE;
+        }
+        return part.equals("terms") ? Words.TERMS : Integer.parseInt(promise);
+    }
+
+    /**
+     * What the part says to the class: no headings, signatures, marks, comments of the face.
+     * The face itself is compared line by line by FaceWordsTest.
+     */
     private static String said(String document, int number) {
-        return Words.part(document, number).replaceAll("(?m)^## .*$|^```.*$|^==== \\d|^Ahead of the calls .*$", " ")
+        return Words.part(document, number).replaceAll("(?s)```java.*?```", " ").replaceAll("(?m)^## .*$|^```.*$|^==== \\d|^Ahead of the calls .*$", " ")
             .replaceAll("`[^`\n]*`:", " ");
     }
 

@@ -36,6 +36,7 @@ public final class FaceTest {
         nested();
         source();
         library();
+        divisors();
         methodsAreShort();
         nothingIsMadeLater();
         for (int state = 0; state < 4; state++) {
@@ -171,6 +172,21 @@ public final class FaceTest {
         while (m.find()) {
             isTrue("rule 4: " + m.group(), own.contains(m.group(1)) || allowed.contains(m.group()));
         }
+    }
+
+    /** What divides is a number, or what the loop around it holds above 1 just then. */
+    private static void divisors() {
+        int found = 0;
+        Matcher m = Pattern.compile("[/%]=?\\s*([\\w.(]+)").matcher(source);
+        while (m.find()) {
+            found++;
+            String divisor = m.group(1);
+            int method = source.lastIndexOf("\n    }\n", m.start());
+            boolean held = Pattern.compile("for \\([^;]*; " + Pattern.quote(divisor) + " > 1;")
+                .matcher(source.substring(Math.max(0, method), m.start())).find();
+            isTrue("rule 7: divisor " + divisor, divisor.matches("[1-9]\\d*") || held);
+        }
+        isTrue("rule 7: " + found + " divisors", found >= 8);
     }
 
     /** From a line that opens a method, or a constructor, to the one that closes it. */

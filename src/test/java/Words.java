@@ -11,7 +11,7 @@ import java.nio.file.Path;
  */
 final class Words {
     static final Path DOCUMENT = Path.of("../shared/DOC.md");
-    static final int TERMS = 0, FACE = -1;
+    static final int TERMS = 0, FACE = -1, REST = -2;
 
     private final Check check;
     private final String document;
@@ -32,10 +32,18 @@ final class Words {
         }
     }
 
-    /** The part of the document that has the promise of this number, the Terms, or what stands ahead of them. */
+    private static String begin(int number) {
+        switch (number) {
+            case FACE: return "## What it is";
+            case TERMS: return "## Terms";
+            case REST: return "## Not promised";
+            default: return "## Promise " + number + ":";
+        }
+    }
+
+    /** The part of the document that has the promise of this number, the Terms, what stands ahead of them, or the rest. */
     static String part(String document, int number) {
-        String begin = number == FACE ? "## What it is" : number == TERMS ? "## Terms" : "## Promise " + number + ":";
-        int from = document.indexOf(begin);
+        int from = document.indexOf(begin(number));
         if (from < 0) {
             return "";
         }
@@ -48,6 +56,10 @@ final class Words {
 
     void face(String words) {
         quote(FACE, words);
+    }
+
+    void rest(String words) {
+        quote(REST, words);
     }
 
     void terms(String words) {
